@@ -644,7 +644,7 @@ public final class LineBalancer {
         }
 
         private void followChains() {
-            copyRow(direct, ahead);
+            System.arraycopy(direct, 0, ahead, 0, TASKS);
             for (int middle = 0; middle < TASKS; middle++) {
                 for (int task = 0; task < TASKS; task++) {
                     ahead[task] |= has(ahead[task], middle) ? ahead[middle] : 0;
