@@ -6,6 +6,7 @@ public final class LineBalancer {
     private static final int MODELS = 3;
     private static final int TASKS = 12;
     private static final int STATIONS = 8;
+    private static final int ALL_TASKS = (1 << TASKS) - 1;
     private static final int NOWHERE = -1;
     private static final int MAX_COPIES = 3;
     private static final int MAX_DEMAND = 9;
@@ -249,7 +250,7 @@ public final class LineBalancer {
             case 6:
                 return stations.countUnfitting();
             default:
-                return quotientUp(now.weightedTimes(-1), now.capacity(1));
+                return quotientUp(now.weightedTimes(ALL_TASKS), now.capacity(1));
         }
     }
 
@@ -1169,7 +1170,7 @@ public final class LineBalancer {
             return position < length ? position : -1;
         }
 
-        // when it answers false, the position is that of the error; so do the other passes
+        // this pass and the others answer false at an error, and leave the position there
         boolean passCommand() {
             if (!passWord() || command == null) {
                 return false;
