@@ -252,7 +252,8 @@ public final class ComparisonTests {
                 return;
             }
             String text = anyText();
-            for (int i = 0; i < text.length(); i++) {
+            // an object has 512 calls
+            for (int i = 0; i < Math.min(text.length(), 100); i++) {
                 char c = text.charAt(i);
                 check("feed(" + c + ")", () -> real.feed(c), () -> model.feed(c));
             }

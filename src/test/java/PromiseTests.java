@@ -1,20 +1,8 @@
-import java.util.NoSuchElementException;
-import java.util.concurrent.Callable;
-
 /** At least one test for each promise of the document, by its number: ordinary, edge and wrong inputs. */
-public final class PromiseTests {
-    private static final Class<?> INDEX = IndexOutOfBoundsException.class;
-    private static final Class<?> ARGUMENT = IllegalArgumentException.class;
-    private static final Class<?> STATE = IllegalStateException.class;
-    private static final Class<?> SUPPORTED = UnsupportedOperationException.class;
-    private static final Class<?> ELEMENT = NoSuchElementException.class;
+public final class PromiseTests extends Checks {
     private static final int[] WILD = {Integer.MIN_VALUE, -2, 100000, Integer.MAX_VALUE};
 
-    private static int promise;
-    private static int checks;
-    private static int wrong;
-
-    public static void main(String[] args) throws Exception {
+    public static void main(String[] args) {
         newObject();
         models();
         rules();
@@ -55,79 +43,13 @@ public final class PromiseTests {
         save();
         restore();
         wildArguments();
-        System.out.println("PromiseTests: " + checks + " checks, " + wrong + " wrong");
-        if (wrong != 0) {
-            System.exit(1);
-        }
-    }
-
-    // ---- helpers
-
-    private static void due(Object want, Object got) {
-        checks++;
-        if (!String.valueOf(want).equals(String.valueOf(got))) {
-            wrong++;
-            StackTraceElement place = Thread.currentThread().getStackTrace()[2];
-            System.out.println("promise " + promise + ", line " + place.getLineNumber() + ": answered " + got
-                    + ", due is " + want);
-        }
-    }
-
-    private static void thrown(Class<?> want, Callable<Object> call) throws Exception {
-        checks++;
-        Object got;
-        try {
-            got = call.call();
-        } catch (RuntimeException e) {
-            got = e.getClass();
-        }
-        if (got != want) {
-            wrong++;
-            StackTraceElement place = Thread.currentThread().getStackTrace()[2];
-            System.out.println("promise " + promise + ", line " + place.getLineNumber() + ": answered " + got
-                    + ", due is " + want);
-        }
-    }
-
-    /** A line with so many tasks, all of the same time in the model 0 and without tool. */
-    private static LineBalancer withTasks(int count, int time) {
-        LineBalancer x = new LineBalancer();
-        for (int i = 0; i < count; i++) {
-            x.addTask(time, 0, 0, 0);
-        }
-        return x;
-    }
-
-    private static int read(LineBalancer x, String text) {
-        for (int i = 0; i < text.length(); i++) {
-            x.feed(text.charAt(i));
-        }
-        return x.read();
-    }
-
-    private static String answers(LineBalancer x) {
-        StringBuilder text = new StringBuilder();
-        for (int what = 0; what <= 8; what++) {
-            text.append(x.rule(what)).append(' ');
-        }
-        for (int what = 0; what <= 7; what++) {
-            text.append(x.line(what)).append(' ');
-        }
-        for (int s = 0; s < 8; s++) {
-            text.append(x.station(s, 0)).append(' ').append(x.station(s, 1)).append(' ');
-        }
-        for (int t = 0; t < x.size(); t++) {
-            for (int what = 0; what <= 11; what++) {
-                text.append(x.task(t, what)).append(' ');
-            }
-        }
-        return text.toString();
+        finish("PromiseTests");
     }
 
     // ---- the promises
 
-    private static void newObject() throws Exception {
-        promise = 1;
+    private static void newObject() {
+        about("promise 1");
         LineBalancer x = new LineBalancer();
         due(0, x.size());
         int[] rules = {60, 2, 5, 0, 1, 1, 1, 1, 1};
@@ -145,8 +67,8 @@ public final class PromiseTests {
         due(1, x.feed('a'));
     }
 
-    private static void models() throws Exception {
-        promise = 2;
+    private static void models() {
+        about("promise 2");
         LineBalancer x = new LineBalancer();
         due(1, x.setModels(3));
         due(3, x.setModels(2));
@@ -157,7 +79,7 @@ public final class PromiseTests {
         }
         due(1, x.rule(4));
 
-        promise = 3;
+        about("promise 3");
         due(1, x.setDemand(0, 9));
         due(1, x.setDemand(2, 4));
         due(4, x.setDemand(2, 5));
@@ -171,8 +93,8 @@ public final class PromiseTests {
         due(1, x.rule(7));
     }
 
-    private static void rules() throws Exception {
-        promise = 4;
+    private static void rules() {
+        about("promise 4");
         LineBalancer x = new LineBalancer();
         int[] at = {60, 2, 5, 0};
         int[] low = {10, 0, 1, 0};
@@ -188,7 +110,7 @@ public final class PromiseTests {
         thrown(ARGUMENT, () -> x.setRule(-1, 10));
         thrown(ARGUMENT, () -> x.setRule(4, 1));
 
-        promise = 5;
+        about("promise 5");
         LineBalancer y = new LineBalancer();
         y.setModels(2);
         y.setDemand(0, 2);
@@ -203,8 +125,8 @@ public final class PromiseTests {
         thrown(ARGUMENT, () -> y.rule(9));
     }
 
-    private static void copies() throws Exception {
-        promise = 6;
+    private static void copies() {
+        about("promise 6");
         LineBalancer x = new LineBalancer();
         due(1, x.setCopies(7, 3));
         due(3, x.setCopies(7, 1));
@@ -218,8 +140,8 @@ public final class PromiseTests {
         due(2, x.station(0, 1));
     }
 
-    private static void addTask() throws Exception {
-        promise = 7;
+    private static void addTask() {
+        about("promise 7");
         LineBalancer x = new LineBalancer();
         due(0, x.addTask(0, 50, 99, 5));
         due(0, x.task(0, 0));
@@ -251,8 +173,8 @@ public final class PromiseTests {
         due(0, y.task(1, 6) + y.task(1, 8) + y.task(1, 9));
     }
 
-    private static void setTimeAndTool() throws Exception {
-        promise = 8;
+    private static void setTimeAndTool() {
+        about("promise 8");
         LineBalancer x = withTasks(2, 30);
         x.assign(1, 2);
         due(30, x.setTime(1, 0, 99));
@@ -269,7 +191,7 @@ public final class PromiseTests {
         thrown(ARGUMENT, () -> x.setTime(0, 0, -1));
         due(30, x.task(0, 0));
 
-        promise = 9;
+        about("promise 9");
         due(0, x.setTool(1, 5));
         due(5, x.setTool(1, 3));
         due(3, x.task(1, 3));
@@ -280,8 +202,8 @@ public final class PromiseTests {
         thrown(ARGUMENT, () -> x.setTool(1, -1));
     }
 
-    private static void before() throws Exception {
-        promise = 10;
+    private static void before() {
+        about("promise 10");
         LineBalancer x = withTasks(5, 1);
         due(1, x.before(3, 1));
         due(2, x.before(1, 2));
@@ -311,8 +233,8 @@ public final class PromiseTests {
         due(2, y.line(5));
     }
 
-    private static void pair() throws Exception {
-        promise = 11;
+    private static void pair() {
+        about("promise 11");
         LineBalancer x = withTasks(4, 1);
         x.assign(0, 2);
         x.assign(1, 2);
@@ -344,8 +266,8 @@ public final class PromiseTests {
         thrown(ARGUMENT, () -> x.pair(2, 2, false));
     }
 
-    private static void drop() throws Exception {
-        promise = 12;
+    private static void drop() {
+        about("promise 12");
         LineBalancer x = withTasks(4, 1);
         x.before(0, 1);
         x.before(1, 2);
@@ -380,8 +302,8 @@ public final class PromiseTests {
         due(0, y.task(0, 7));
     }
 
-    private static void task() throws Exception {
-        promise = 13;
+    private static void task() {
+        about("promise 13");
         LineBalancer x = new LineBalancer();
         x.addTask(10, 20, 30, 4);
         x.addTask(1, 1, 1, 0);
@@ -416,8 +338,8 @@ public final class PromiseTests {
         thrown(ARGUMENT, () -> x.task(0, -1));
     }
 
-    private static void priority() throws Exception {
-        promise = 14;
+    private static void priority() {
+        about("promise 14");
         LineBalancer x = new LineBalancer();
         x.addTask(10, 1, 0, 0);
         x.addTask(20, 2, 0, 0);
@@ -444,7 +366,7 @@ public final class PromiseTests {
     }
 
     private static void size() {
-        promise = 15;
+        about("promise 15");
         LineBalancer x = new LineBalancer();
         for (int i = 0; i < 12; i++) {
             due(i, x.size());
@@ -455,8 +377,8 @@ public final class PromiseTests {
         due(11, x.size());
     }
 
-    private static void assign() throws Exception {
-        promise = 16;
+    private static void assign() {
+        about("promise 16");
         LineBalancer x = withTasks(2, 40);
         due(-1, x.assign(0, 7));
         due(7, x.assign(0, 0));
@@ -478,8 +400,8 @@ public final class PromiseTests {
         due(0, x.assign(0, -1));
     }
 
-    private static void reason() throws Exception {
-        promise = 17;
+    private static void reason() {
+        about("promise 17");
         LineBalancer x = withTasks(5, 5);
         x.before(0, 1);
         x.before(1, 2);
@@ -528,7 +450,7 @@ public final class PromiseTests {
     }
 
     private static void reasonOfToolsAndFit() {
-        promise = 17;
+        about("promise 17");
         LineBalancer x = new LineBalancer();
         x.addTask(30, 0, 0, 1);
         x.addTask(29, 0, 0, 2);
@@ -567,8 +489,8 @@ public final class PromiseTests {
         due(6, y.reason(0, 0));
     }
 
-    private static void whyNot() throws Exception {
-        promise = 18;
+    private static void whyNot() {
+        about("promise 18");
         LineBalancer x = withTasks(3, 40);
         thrown(ELEMENT, x::whyNot);
         x.assign(0, 0);
@@ -589,8 +511,8 @@ public final class PromiseTests {
         due(1, x.whyNot());
     }
 
-    private static void station() throws Exception {
-        promise = 19;
+    private static void station() {
+        about("promise 19");
         LineBalancer x = new LineBalancer();
         x.addTask(10, 20, 0, 1);
         x.addTask(10, 0, 0, 2);
@@ -630,8 +552,8 @@ public final class PromiseTests {
         thrown(ARGUMENT, () -> x.station(0, -1));
     }
 
-    private static void time() throws Exception {
-        promise = 20;
+    private static void time() {
+        about("promise 20");
         LineBalancer x = new LineBalancer();
         x.setRule(0, 999);
         x.addTask(1, 1, 1, 1);
@@ -669,8 +591,8 @@ public final class PromiseTests {
         thrown(INDEX, () -> x.time(-1, 0, false));
     }
 
-    private static void sequence() throws Exception {
-        promise = 21;
+    private static void sequence() {
+        about("promise 21");
         LineBalancer x = withTasks(6, 1);
         x.before(4, 0);
         x.before(5, 3);
@@ -700,8 +622,8 @@ public final class PromiseTests {
         thrown(INDEX, () -> x.sequence(-1, 0));
     }
 
-    private static void line() throws Exception {
-        promise = 22;
+    private static void line() {
+        about("promise 22");
         LineBalancer x = withTasks(5, 30);
         for (int what = 0; what < 7; what++) {
             due(0, x.line(what));
@@ -746,7 +668,7 @@ public final class PromiseTests {
     }
 
     private static void lineOfRefusedTasks() {
-        promise = 22;
+        about("promise 22");
         LineBalancer x = withTasks(4, 30);
         x.assign(0, 0);
         x.assign(1, 0);
@@ -769,10 +691,10 @@ public final class PromiseTests {
         due(2, x.line(6));
     }
 
-    private static void efficiency() throws Exception {
-        promise = 23;
+    private static void efficiency() {
+        about("promise 23");
         LineBalancer x = withTasks(3, 25);
-        thrown(ArithmeticException.class, x::efficiency);
+        thrown(ARITHMETIC, x::efficiency);
         x.assign(0, 0);
         x.assign(1, 3);
         x.setCopies(3, 2);
@@ -787,11 +709,11 @@ public final class PromiseTests {
         x.setTime(1, 0, 0);
         due(0f, x.efficiency());
         x.clearLine();
-        thrown(ArithmeticException.class, x::efficiency);
+        thrown(ARITHMETIC, x::efficiency);
     }
 
     private static void unevenness() {
-        promise = 24;
+        about("promise 24");
         LineBalancer x = withTasks(3, 25);
         due(0, x.unevenness());
         x.assign(0, 0);
@@ -813,7 +735,7 @@ public final class PromiseTests {
     }
 
     private static void clearLine() {
-        promise = 25;
+        about("promise 25");
         LineBalancer x = withTasks(3, 25);
         due(0, x.clearLine());
         x.assign(0, 0);
@@ -825,8 +747,8 @@ public final class PromiseTests {
         due(3, x.size());
     }
 
-    private static void fill() throws Exception {
-        promise = 26;
+    private static void fill() {
+        about("promise 26");
         LineBalancer x = new LineBalancer();
         int[] times = {10, 50, 20, 40, 30, 20};
         for (int t : times) {
@@ -837,38 +759,30 @@ public final class PromiseTests {
         x.assign(0, 7);
         // 5 (70), 1 (50), 3, 4 (40; 3 is the lowest of both), 2, 0
         due(3, x.fill(0));
-        due("2 1 2 0 2 0 ", placesOf(x));
+        due("2 1 2 0 2 0", placesOf(x));
         // 3 (40), 4, 2, 5, 1, 0
         due(3, x.fill(1));
-        due("1 2 0 0 1 1 ", placesOf(x));
+        due("1 2 0 0 1 1", placesOf(x));
         // 4 and 5 have a follower, then 0, 1, 2, 3
         due(3, x.fill(2));
-        due("0 1 2 2 0 0 ", placesOf(x));
+        due("0 1 2 2 0 0", placesOf(x));
         // the number alone: 2, 3, 4, 0, 5, 1
         due(3, x.fill(3));
-        due("1 2 0 0 1 1 ", placesOf(x));
+        due("1 2 0 0 1 1", placesOf(x));
         thrown(ARGUMENT, () -> x.fill(4));
         thrown(ARGUMENT, () -> x.fill(-1));
         due(0, new LineBalancer().fill(0));
     }
 
-    private static String placesOf(LineBalancer x) {
-        StringBuilder text = new StringBuilder();
-        for (int t = 0; t < x.size(); t++) {
-            text.append(x.task(t, 5)).append(' ');
-        }
-        return text.toString();
-    }
-
-    private static void fillRefused() throws Exception {
-        promise = 26;
+    private static void fillRefused() {
+        about("promise 26");
         LineBalancer x = withTasks(3, 40);
         x.assign(0, 2);
         x.assign(1, 1);
         x.setTime(2, 0, 70);
         thrown(SUPPORTED, () -> x.fill(0));
         due(6, x.whyNot());
-        due("2 1 -1 ", placesOf(x));
+        due("2 1 -1", placesOf(x));
         // only the copies of the station 7 are enough, and it refuses for another reason
         x.setCopies(7, 2);
         due(3, x.fill(0));
@@ -877,7 +791,7 @@ public final class PromiseTests {
         x.pair(2, 0, true);
         thrown(SUPPORTED, () -> x.fill(0));
         due(3, x.whyNot());
-        due("0 1 7 ", placesOf(x));
+        due("0 1 7", placesOf(x));
         // what is refused is no change
         LineBalancer y = withTasks(1, 70);
         thrown(SUPPORTED, () -> y.fill(0));
@@ -885,8 +799,8 @@ public final class PromiseTests {
         thrown(STATE, y::undo);
     }
 
-    private static void least() throws Exception {
-        promise = 27;
+    private static void least() {
+        about("promise 27");
         due(0, new LineBalancer().least());
         LineBalancer x = withTasks(8, 30);
         due(4, x.least());
@@ -911,8 +825,8 @@ public final class PromiseTests {
         thrown(STATE, y::least);
     }
 
-    private static void ways() throws Exception {
-        promise = 28;
+    private static void ways() {
+        about("promise 28");
         LineBalancer none = new LineBalancer();
         due(1, none.ways(0));
         due(1, none.ways(8));
@@ -945,7 +859,7 @@ public final class PromiseTests {
     }
 
     private static void waysWithRules() {
-        promise = 28;
+        about("promise 28");
         // one task that only fits into stations with two copies
         LineBalancer x = withTasks(1, 90);
         due(0, x.ways(8));
@@ -985,8 +899,8 @@ public final class PromiseTests {
         due(2, z.ways(2));
     }
 
-    private static void takeLeast() throws Exception {
-        promise = 29;
+    private static void takeLeast() {
+        about("promise 29");
         due(0, new LineBalancer().takeLeast());
         LineBalancer x = withTasks(5, 30);
         x.before(4, 0);
@@ -994,13 +908,13 @@ public final class PromiseTests {
         x.assign(4, 0);
         // 0 and 4 first, then 1 and 2, then 3
         due(3, x.takeLeast());
-        due("0 1 1 2 0 ", placesOf(x));
+        due("0 1 1 2 0", placesOf(x));
         due(0, x.takeLeast());
         x.pair(1, 2, true);
         due(2, x.takeLeast());
-        due("0 1 2 1 0 ", placesOf(x));
+        due("0 1 2 1 0", placesOf(x));
         x.undo();
-        due("0 1 1 2 0 ", placesOf(x));
+        due("0 1 1 2 0", placesOf(x));
         LineBalancer y = withTasks(1, 99);
         y.assign(0, -1);
         thrown(ELEMENT, y::takeLeast);
@@ -1013,7 +927,7 @@ public final class PromiseTests {
         gap.setTime(1, 0, 90);
         gap.setCopies(2, 2);
         due(2, gap.takeLeast());
-        due("0 2 ", placesOf(gap));
+        due("0 2", placesOf(gap));
         LineBalancer z = withTasks(9, 0);
         thrown(STATE, z::takeLeast);
         LineBalancer eight = withTasks(8, 35);
@@ -1021,15 +935,15 @@ public final class PromiseTests {
             eight.before(t + 1, t);
         }
         due(8, eight.takeLeast());
-        due("7 6 5 4 3 2 1 0 ", placesOf(eight));
+        due("7 6 5 4 3 2 1 0", placesOf(eight));
         eight.setRule(0, 70);
         eight.drop(6, 7);
         due(8, eight.takeLeast());
-        due("3 2 2 1 1 0 0 3 ", placesOf(eight));
+        due("3 2 2 1 1 0 0 3", placesOf(eight));
     }
 
-    private static void feed() throws Exception {
-        promise = 30;
+    private static void feed() {
+        about("promise 30");
         LineBalancer x = new LineBalancer();
         for (int i = 1; i <= 80; i++) {
             due(i, x.feed((char) (i * 819)));
@@ -1044,7 +958,7 @@ public final class PromiseTests {
     }
 
     private static void readErrors() {
-        promise = 31;
+        about("promise 31");
         Object[][] rows = {
             {"", 0}, {" ", 0}, {";", 0}, {"p", 0}, {"pu", 0}, {"put", 3}, {"put ", 4}, {"put 0", 5},
             {"put 0 ", 6}, {"puts 0 1", 0}, {"Put 0 1", 0}, {"putT", 3}, {"put1", 3}, {"put  0 1", 4},
@@ -1064,8 +978,8 @@ public final class PromiseTests {
         }
     }
 
-    private static void readCommandsBehindLongerInput() throws Exception {
-        promise = 31;
+    private static void readCommandsBehindLongerInput() {
+        about("promise 31");
         LineBalancer x = withTasks(3, 1);
         due(-109, read(x, "put 0 12;puts"));
         due(1, read(x, "put 0 1"));
@@ -1088,7 +1002,7 @@ public final class PromiseTests {
     }
 
     private static void readCommands() {
-        promise = 31;
+        about("promise 31");
         LineBalancer x = new LineBalancer();
         due(3, read(x, "task 12 8 0 2;task 009 99 99 000;before 0 1"));
         due(2, x.size());
@@ -1111,8 +1025,8 @@ public final class PromiseTests {
         due(5, x.undo());
     }
 
-    private static void readRefused() throws Exception {
-        promise = 31;
+    private static void readRefused() {
+        about("promise 31");
         String[] bad = {"task 100 0 0 0", "task 0 0 0 6", "before 0 0", "before 0 3", "before 0 1;before 0 1",
             "before 0 1;before 1 0", "before 1 2;before 2 0;before 0 1", "apart 1 1", "together 0 3", "apart 3 0",
             "put 3 0", "put 0 8", "cycle 9", "cycle 0", "cycle 10;put 0 0"};
@@ -1143,8 +1057,8 @@ public final class PromiseTests {
         due(1, x.whyNot());
     }
 
-    private static void undo() throws Exception {
-        promise = 32;
+    private static void undo() {
+        about("promise 32");
         LineBalancer x = new LineBalancer();
         thrown(STATE, x::undo);
         for (int i = 0; i < 10; i++) {
@@ -1192,7 +1106,7 @@ public final class PromiseTests {
     }
 
     private static void undoOfEachChange() {
-        promise = 32;
+        about("promise 32");
         for (int change = 0; change < 15; change++) {
             LineBalancer x = withTasks(4, 15);
             x.before(0, 1);
@@ -1226,7 +1140,7 @@ public final class PromiseTests {
     }
 
     private static void save() {
-        promise = 33;
+        about("promise 33");
         LineBalancer x = new LineBalancer();
         due(0, x.save());
         x.addTask(1, 2, 3, 4);
@@ -1240,8 +1154,8 @@ public final class PromiseTests {
         due(2, x.size());
     }
 
-    private static void restore() throws Exception {
-        promise = 34;
+    private static void restore() {
+        about("promise 34");
         LineBalancer x = withTasks(3, 20);
         thrown(STATE, x::restore);
         x.before(0, 1);
@@ -1276,8 +1190,8 @@ public final class PromiseTests {
         due(0, x.undo());
     }
 
-    private static void wildArguments() throws Exception {
-        promise = 0;
+    private static void wildArguments() {
+        about("all promises");
         LineBalancer x = withTasks(3, 5);
         for (int v : WILD) {
             for (int w : WILD) {
