@@ -7,20 +7,9 @@ public final class ChangesBoundaryTests extends Checks {
         runAll(ChangesBoundaryTests.class, List.of("Changes", "Exceptions", "In doubt"));
     }
 
-    /** Four tasks in three stations, with precedence and pairs; more than 8 changes have led there. */
+    /** Four tasks, and a command that is begun in the input. */
     private static LineBalancer sample() {
-        LineBalancer x = new LineBalancer();
-        x.addTask(30, 20, 0, 1);
-        x.addTask(25, 30, 5, 2);
-        x.addTask(20, 10, 60, 0);
-        x.addTask(40, 0, 0, 3);
-        x.setModels(2);
-        x.setDemand(1, 2);
-        x.before(0, 1);
-        x.before(1, 2);
-        x.pair(0, 3, true);
-        x.setCopies(4, 2);
-        put(x, 0, 1, 4);
+        LineBalancer x = ofFourTasks();
         feed(x, "put");
         return x;
     }
@@ -62,8 +51,8 @@ public final class ChangesBoundaryTests extends Checks {
             x -> x.setTool(0, 5), x -> x.before(0, 2), x -> x.pair(1, 2, false), x -> x.drop(1, 0),
             x -> x.assign(3, 7), x -> x.fill(0), x -> x.takeLeast(), x -> x.clearLine());
 
-    @Says(part = "Changes", quote = "setModels, setDemand, setRule, setCopies, addTask, setTime, setTool, before, pair, "
-            + "drop, assign, fill, takeLeast and clearLine")
+    @Says(part = "Changes", quote = "setModels, setDemand, setRule, setCopies, addTask, setTime, setTool, "
+            + "before, pair, drop, assign, fill, takeLeast and clearLine")
     static void eachOfTheseCallsIsOneChange() {
         for (CallOf change : CHANGES) {
             LineBalancer x = sample();
@@ -79,7 +68,7 @@ public final class ChangesBoundaryTests extends Checks {
 
     private static final List<CallOf> NO_CHANGES = List.of(x -> x.rule(0), x -> x.task(0, 11), x -> x.priority(0, 0),
             x -> x.size(), x -> x.reason(0, 7), x -> x.station(0, 2), x -> x.time(0, 0, true),
-            x -> x.sequence(0, 0), x -> x.line(3), x -> x.efficiency(), x -> x.unevenness(), x -> x.least(),
+            x -> x.sequence(1, 1), x -> x.line(3), x -> x.efficiency(), x -> x.unevenness(), x -> x.least(),
             x -> x.ways(4), x -> x.feed('u'), x -> x.save());
 
     @Says(part = "Changes", quote = "The changes are the calls without an exception of")
@@ -122,9 +111,9 @@ public final class ChangesBoundaryTests extends Checks {
         due(1, x.size());
     }
 
-    private static final List<CallOf> IDLE = List.of(x -> x.setModels(2), x -> x.setDemand(1, 2), x -> x.setRule(0, 60),
+    private static final List<CallOf> IDLE = List.of(x -> x.setModels(2), x -> x.setDemand(2, 2), x -> x.setRule(0, 60),
             x -> x.setCopies(4, 2), x -> x.setTime(0, 0, 30), x -> x.setTool(0, 1), x -> x.pair(0, 3, true),
-            x -> x.assign(0, 0), x -> x.assign(3, -1), x -> read(x, " 0 0"), x -> read(x, " 0 0;cycle 60"));
+            x -> x.assign(0, 1), x -> x.assign(3, -1), x -> read(x, " 0 1"), x -> read(x, " 0 1;cycle 60"));
     private static final List<CallOf> IDLE_WHEN_CALLED_AGAIN = List.of(x -> x.clearLine(), x -> x.takeLeast(),
             x -> x.fill(0), x -> x.fill(3));
 
@@ -227,14 +216,14 @@ public final class ChangesBoundaryTests extends Checks {
         refused(four, INDEX, x -> x.assign(4, 0));
         refused(four, INDEX, x -> x.assign(0, 8));
         refused(four, SUPPORTED, x -> x.assign(0, 7));
-        refused(four, SUPPORTED, x -> x.assign(3, 0));
+        refused(four, SUPPORTED, x -> x.assign(3, 1));
         refused(four, INDEX, x -> x.reason(0, 8));
         refused(four, ELEMENT, x -> x.whyNot());
         refused(four, INDEX, x -> x.station(8, 0));
         refused(four, ARGUMENT, x -> x.station(0, 6));
         refused(four, INDEX, x -> x.time(0, 2, true));
         refused(four, INDEX, x -> x.sequence(8, 0));
-        refused(four, ELEMENT, x -> x.sequence(0, 1));
+        refused(four, ELEMENT, x -> x.sequence(1, 2));
         refused(four, ARGUMENT, x -> x.line(8));
         refused(ChangesBoundaryTests::ofNothing, ARITHMETIC, x -> x.efficiency());
         refused(four, ARGUMENT, x -> x.fill(4));
@@ -258,7 +247,7 @@ public final class ChangesBoundaryTests extends Checks {
         thrown(SUPPORTED, () -> x.assign(0, 7));
         due(2, x.whyNot());
         due(4, x.feed(' '));
-        thrown(SUPPORTED, () -> read(x, "3 0"));
+        thrown(SUPPORTED, () -> read(x, "3 1"));
         due(3, x.whyNot());
         due(1, x.feed('p'));
         // calls that throw something else leave the reason and the input
@@ -319,7 +308,8 @@ public final class ChangesBoundaryTests extends Checks {
         return put(x, 0, 0, 0, 1);
     }
 
-    @Says(part = "In doubt", quote = "leave all tasks in their stations, even where they are refused or do not fit then")
+    @Says(part = "In doubt", quote = "leave all tasks in their stations, even where they are refused or do not "
+            + "fit then")
     static void noSettingMovesATask() {
         for (CallOf setting : SETTINGS) {
             LineBalancer x = tight();

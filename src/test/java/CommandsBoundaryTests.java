@@ -311,12 +311,15 @@ public final class CommandsBoundaryTests extends Checks {
         error(80, "put 0 0;".repeat(9) + "put 000 ");
     }
 
-    @Says(part = "Promise 31", quote = "a word, which is a sequence of letters from a to z as long as possible, that is none of "
-            + "these is an error at its first letter")
+    @Says(part = "Promise 31", quote = "a word, which is a sequence of letters from a to z as long as possible, "
+            + "that is none of these is an error at its first letter")
     static void anUnknownWordIsAnErrorAtItsFirstLetter() {
         for (String word : WORDS) {
             error(0, word + "s 1 1 1 1");
             error(0, "a" + word + " 1 1 1 1");
+            for (int at = 0; at < word.length(); at++) {
+                error(0, word.substring(0, at) + "x" + word.substring(at + 1) + " 1 1 1 1");
+            }
             error(0, word + word + " 1 1 1 1");
             error(0, word.substring(1) + " 1 1 1 1");
             error(0, word.substring(0, word.length() - 1) + " 1 1 1 1");
@@ -398,7 +401,8 @@ public final class CommandsBoundaryTests extends Checks {
         refused(withTasks(12, 1), "task 0 0 0 0");
     }
 
-    @Says(part = "Promise 31", quote = "if this is assign and the station refuses the task, the reason is kept for whyNot")
+    @Says(part = "Promise 31", quote = "if this is assign and the station refuses the task, the reason is kept "
+            + "for whyNot")
     static void theReasonOfARefusedPutIsKept() {
         String[] texts = {"before 0 1;put 0 5;put 1 4", "before 0 1;put 1 4;put 0 5", "apart 0 1;put 0 5;put 1 5",
             "together 0 1;put 0 5;put 1 4", "put 0 5;put 1 5;put 2 5", "put 2 7"};

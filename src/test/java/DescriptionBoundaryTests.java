@@ -491,7 +491,8 @@ public final class DescriptionBoundaryTests extends Checks {
         due(0, x.time(1, 0, false));
     }
 
-    @Says(part = "Times", quote = "The load of a station is the sum, over the models, of the demand times its time in the model.")
+    @Says(part = "Times", quote = "The load of a station is the sum, over the models, of the demand times its "
+            + "time in the model.")
     static void theLoadGoesFrom0ToTheGreatest() {
         LineBalancer x = new LineBalancer();
         due(0, x.station(0, 2));
@@ -512,7 +513,8 @@ public final class DescriptionBoundaryTests extends Checks {
         due(19 * (12 * 99 + 12 * 20), x.station(0, 2));
     }
 
-    @Says(part = "Times", quote = "if its load is at most the product of its copies, the cycle time and the total demand")
+    @Says(part = "Times", quote = "if its load is at most the product of its copies, the cycle time and the "
+            + "total demand")
     static void aStationFitsOnAverageUpToTheProduct() {
         LineBalancer x = new LineBalancer();
         x.addTask(99, 21, 0, 0);
@@ -537,7 +539,8 @@ public final class DescriptionBoundaryTests extends Checks {
         due(1, x.station(7, 3));
     }
 
-    @Says(part = "Times", quote = "strictly, if its time in each model is at most the product of its copies and the cycle time")
+    @Says(part = "Times", quote = "strictly, if its time in each model is at most the product of its copies and "
+            + "the cycle time")
     static void aStationFitsStrictlyUpToTheProduct() {
         for (int model = 0; model < 3; model++) {
             LineBalancer x = withTasks(2, 0);
@@ -707,7 +710,8 @@ public final class DescriptionBoundaryTests extends Checks {
         due(0, x.reason(1, 4));
     }
 
-    @Says(part = "Reasons", quote = "5 the tasks of the station have more different tools, other than 0, than the tool limit")
+    @Says(part = "Reasons", quote = "5 the tasks of the station have more different tools, other than 0, than "
+            + "the tool limit")
     static void reason5() {
         LineBalancer x = withTools(1, 2, 3, 3, 0, 4);
         x.setRule(2, 3);
@@ -753,7 +757,8 @@ public final class DescriptionBoundaryTests extends Checks {
 
     // ---- Priorities
 
-    @Says(part = "Priorities", quote = "0 the weighted time of a task plus the sum of the weighted times of all tasks before which it is")
+    @Says(part = "Priorities", quote = "0 the weighted time of a task plus the sum of the weighted times of all "
+            + "tasks before which it is")
     static void thePriority0CountsEachTaskOnce() {
         LineBalancer x = withTimes(1, 10, 20, 99);
         due(1, x.priority(0, 0));
@@ -862,6 +867,33 @@ public final class DescriptionBoundaryTests extends Checks {
         x.assign(0, 5);
         due(2, x.ways(2));
         due(1, x.least());
+    }
+
+    @Says(part = "Lines", quote = "no task would be refused by its station")
+    static void noNumberOfCopiesOutweighsAReason() {
+        LineBalancer x = withTasks(1, 31);
+        x.setRule(0, 10);
+        for (int station = 0; station < 8; station++) {
+            x.setCopies(station, 3);
+        }
+        due(0, x.ways(8));
+        thrown(ELEMENT, x::least);
+        x.setTime(0, 0, 30);
+        due(8, x.ways(8));
+        x.addTask(0, 0, 0, 0);
+        due(4, x.ways(2));
+        x.setRule(2, 1);
+        x.setTool(0, 1);
+        x.setTool(1, 2);
+        due(2, x.ways(2));
+        x.setRule(2, 5);
+        x.pair(0, 1, true);
+        due(2, x.ways(2));
+        x.pair(0, 1, false);
+        due(2, x.ways(2));
+        x.setRule(3, 1);
+        x.setTime(1, 0, 1);
+        due(0, x.ways(2));
     }
 
     @Says(part = "Lines", quote = "Stations may stay empty.")

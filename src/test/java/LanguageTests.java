@@ -51,6 +51,8 @@ public final class LanguageTests {
     private static final String[] BANNED = {"\\btry\\b", "\\bcatch\\b", "\\bfinally\\b", "\\bassert\\b",
         "\\bsynchronized\\b", "->", "::", "\\bpackage\\b", "\\bnative\\b", "\\bvolatile\\b", "\\bObject\\b",
         "\\bSystem\\.(?!arraycopy)", "\\bRandom\\b", "\\bThread\\b", "Exact\\(", "\\bvar\\b", "\\bprotected\\b"};
+    private static final Set<String> LIBRARY = Set.of("java.util.Arrays", "java.util.NoSuchElementException",
+            "java.util.ArrayList", "java.util.List", "java.util.Iterator");
     private static final int LONGEST_METHOD = 60;
 
     private static int wrong;
@@ -60,6 +62,7 @@ public final class LanguageTests {
         face();
         members();
         nestedClasses();
+        imports(text);
         bannedWords(withoutComments(text));
         madeObjects(withoutComments(text));
         methodLengths(text);
@@ -143,6 +146,13 @@ public final class LanguageTests {
             check(own <= 20, type + " has too many fields");
             check(type == LineBalancer.class || Modifier.isStatic(type.getModifiers())
                     && !Modifier.isPublic(type.getModifiers()), type + " must be static and not public");
+        }
+    }
+
+    private static void imports(String text) {
+        Matcher matcher = Pattern.compile("(?m)^import (.*);$").matcher(text);
+        while (matcher.find()) {
+            check(LIBRARY.contains(matcher.group(1)), "imports " + matcher.group(1));
         }
     }
 

@@ -21,7 +21,8 @@ public final class LeastBoundaryTests extends Checks {
 
     // ---- Promise 27
 
-    @Says(part = "Promise 27", quote = "Returns the least number n, from 0 to 8, for which there is a line with n stations.")
+    @Says(part = "Promise 27", quote = "Returns the least number n, from 0 to 8, for which there is a line with "
+            + "n stations.")
     static void leastGoesFrom0To8() {
         due(0, new LineBalancer().least());
         for (int count = 1; count <= 8; count++) {
@@ -168,8 +169,8 @@ public final class LeastBoundaryTests extends Checks {
         due("0 1 1 0", placesOf(y));
     }
 
-    @Says(part = "Promise 29", quote = "of all of them the one in which the task 0 is in the lowest station, then the task 1, "
-            + "and so on")
+    @Says(part = "Promise 29", quote = "of all of them the one in which the task 0 is in the lowest station, "
+            + "then the task 1, and so on")
     static void theFirstOfAllLeastLinesIsTaken() {
         LineBalancer x = withTasks(8, 20);
         x.takeLeast();
@@ -183,6 +184,11 @@ public final class LeastBoundaryTests extends Checks {
         x.pair(7, 6, false);
         x.takeLeast();
         due("0 1 1 1 2 2 0 0", placesOf(x));
+        // the station 1 stays empty, though the tasks 0 and 1 could be there
+        LineBalancer gap = withTimes(10, 10, 90);
+        gap.setCopies(2, 2);
+        gap.takeLeast();
+        due("0 0 2", placesOf(gap));
         LineBalancer y = withTasks(8, 60);
         for (int task = 1; task < 8; task++) {
             y.before(task, task - 1);
@@ -191,7 +197,8 @@ public final class LeastBoundaryTests extends Checks {
         due("7 6 5 4 3 2 1 0", placesOf(y));
     }
 
-    @Says(part = "Promise 29", quote = "Returns the number of tasks that are in another station than before, or were in none.")
+    @Says(part = "Promise 29", quote = "Returns the number of tasks that are in another station than before, or "
+            + "were in none.")
     static void takeLeastReturns0To8() {
         due(0, new LineBalancer().takeLeast());
         LineBalancer x = withTasks(8, 60);

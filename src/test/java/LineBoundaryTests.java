@@ -71,8 +71,8 @@ public final class LineBoundaryTests extends Checks {
         due(-1, x.assign(0, 7));
     }
 
-    @Says(part = "Promise 16", quote = "Throws IndexOutOfBoundsException if there is no such task, or station is neither "
-            + "-1 nor a station")
+    @Says(part = "Promise 16", quote = "Throws IndexOutOfBoundsException if there is no such task, or station is "
+            + "neither -1 nor a station")
     static void otherTasksAndStationsDoNotExist() {
         LineBalancer x = withTasks(1, 1);
         thrown(INDEX, () -> x.assign(1, 0));
@@ -376,8 +376,8 @@ public final class LineBoundaryTests extends Checks {
         }
     }
 
-    @Says(part = "Promise 20", quote = "Throws IndexOutOfBoundsException if there is no such station, or no such model in "
-            + "use")
+    @Says(part = "Promise 20", quote = "Throws IndexOutOfBoundsException if there is no such station, or no such "
+            + "model in use")
     static void onlyModelsInUseHaveATime() {
         LineBalancer x = withTasks(1, 1);
         for (int models = 1; models <= 3; models++) {
@@ -489,7 +489,8 @@ public final class LineBoundaryTests extends Checks {
         due(11, x.line(2));
     }
 
-    @Says(part = "Promise 22", quote = "3 for the station with the greatest load divided by its copies, as an exact fraction")
+    @Says(part = "Promise 22", quote = "3 for the station with the greatest load divided by its copies, as an "
+            + "exact fraction")
     static void what3ComparesExactFractions() {
         LineBalancer x = withTimes(50, 17, 16);
         x.setCopies(0, 3);
@@ -577,8 +578,8 @@ public final class LineBoundaryTests extends Checks {
         due(0, x.line(6));
     }
 
-    @Says(part = "Promise 22", quote = "7 for the sum of all weighted times divided by the product of the cycle time and the "
-            + "total demand, rounded up")
+    @Says(part = "Promise 22", quote = "7 for the sum of all weighted times divided by the product of the cycle "
+            + "time and the total demand, rounded up")
     static void what7IsRoundedUp() {
         LineBalancer x = withTasks(2, 0);
         due(0, x.line(7));
@@ -640,8 +641,8 @@ public final class LineBoundaryTests extends Checks {
         due(0.0f, x.efficiency());
     }
 
-    @Says(part = "Promise 23", quote = "divided by the product of the sum of the copies of stations that have tasks, the cycle "
-            + "time and the total demand")
+    @Says(part = "Promise 23", quote = "divided by the product of the sum of the copies of stations that have "
+            + "tasks, the cycle time and the total demand")
     static void efficiencyCountsCopiesOfStationsWithTasks() {
         LineBalancer x = withTasks(8, 60);
         x.setModels(2);
@@ -786,7 +787,8 @@ public final class LineBoundaryTests extends Checks {
         due("0 1 2", placesOf(x));
     }
 
-    @Says(part = "Promise 26", quote = "of the tasks that are in no station while all tasks before them are in stations")
+    @Says(part = "Promise 26", quote = "of the tasks that are in no station while all tasks before them are in "
+            + "stations")
     static void aTaskWaitsForAllThatAreBeforeIt() {
         LineBalancer x = withTimes(30, 20, 10, 5, 59);
         x.before(1, 0);

@@ -316,7 +316,8 @@ public final class TasksBoundaryTests extends Checks {
         due(1, x.before(0, 1));
     }
 
-    @Says(part = "Promise 10", quote = "Throws UnsupportedOperationException if the latter one is before the former one")
+    @Says(part = "Promise 10", quote = "Throws UnsupportedOperationException if the latter one is before the "
+            + "former one")
     static void aLinkAgainstAChainIsRefused() {
         LineBalancer x = chain(12);
         thrown(SUPPORTED, () -> x.before(1, 0));
@@ -410,8 +411,8 @@ public final class TasksBoundaryTests extends Checks {
 
     // ---- Promise 12
 
-    @Says(part = "Promise 12", quote = "Ends that one of two tasks is directly before the other one, and that they are a "
-            + "pair.")
+    @Says(part = "Promise 12", quote = "Ends that one of two tasks is directly before the other one, and that "
+            + "they are a pair.")
     static void dropEndsBothInEitherDirection() {
         for (int swap = 0; swap < 2; swap++) {
             for (int kind = 0; kind < 2; kind++) {
@@ -440,8 +441,8 @@ public final class TasksBoundaryTests extends Checks {
         due(8, x.task(1, 10));
     }
 
-    @Says(part = "Promise 12", quote = "Returns 1 if one of them was directly before the other one, plus 2 if they were a "
-            + "pair.")
+    @Says(part = "Promise 12", quote = "Returns 1 if one of them was directly before the other one, plus 2 if "
+            + "they were a pair.")
     static void dropReturns1Or2Or3() {
         LineBalancer x = withTasks(3, 1);
         x.before(0, 1);

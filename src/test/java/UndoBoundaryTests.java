@@ -6,7 +6,7 @@ public final class UndoBoundaryTests extends Checks {
         runAll(UndoBoundaryTests.class, List.of("Promise 32", "Promise 33", "Promise 34"));
     }
 
-    /** One change of each kind that there is, each of them on the state of rich(). */
+    /** One change of each kind that there is, each of them on the state of ofFourTasks(). */
     private static final List<CallOf> CHANGES = List.of(x -> x.setModels(3), x -> x.setDemand(2, 5),
             x -> x.setRule(0, 99), x -> x.setRule(1, 7), x -> x.setRule(2, 4), x -> x.setRule(3, 1),
             x -> x.setCopies(0, 3), x -> x.setCopies(7, 3), x -> x.addTask(9, 9, 9, 4), x -> x.setTime(0, 0, 11),
@@ -15,27 +15,12 @@ public final class UndoBoundaryTests extends Checks {
             x -> x.assign(3, 7), x -> x.assign(0, -1), x -> x.fill(0), x -> x.takeLeast(), x -> x.clearLine(),
             x -> read(x, "task 1 1 1 1;before 4 0;together 1 4;apart 4 2;put 4 1;cycle 61"));
 
-    private static LineBalancer rich() {
-        LineBalancer x = new LineBalancer();
-        x.addTask(30, 20, 0, 1);
-        x.addTask(25, 30, 5, 2);
-        x.addTask(20, 10, 60, 0);
-        x.addTask(40, 0, 0, 3);
-        x.setModels(2);
-        x.setDemand(2, 2);
-        x.before(0, 1);
-        x.before(1, 2);
-        x.pair(0, 3, true);
-        x.setCopies(4, 2);
-        return put(x, 1, 1, 4);
-    }
-
     // ---- Promise 32
 
     @Says(part = "Promise 32", quote = "Undoes the latest change that was not undone.")
     static void eachKindOfChangeIsUndoneAsAWhole() {
         for (CallOf change : CHANGES) {
-            LineBalancer x = rich();
+            LineBalancer x = ofFourTasks();
             String old = answers(x);
             change.answer(x);
             due(false, old.equals(answers(x)));
@@ -158,7 +143,7 @@ public final class UndoBoundaryTests extends Checks {
     @Says(part = "Promise 33", quote = "Saves models, rules, stations and tasks")
     static void whateverChangesIsSaved() {
         for (CallOf change : CHANGES) {
-            LineBalancer x = rich();
+            LineBalancer x = ofFourTasks();
             change.answer(x);
             String saved = answers(x);
             x.save();
@@ -220,7 +205,7 @@ public final class UndoBoundaryTests extends Checks {
 
     @Says(part = "Promise 34", quote = "Restores what was saved last, which stays saved.")
     static void whatWasSavedIsRestoredAgainAndAgain() {
-        LineBalancer x = rich();
+        LineBalancer x = ofFourTasks();
         x.save();
         String saved = answers(x);
         due(4, x.restore());
@@ -236,7 +221,7 @@ public final class UndoBoundaryTests extends Checks {
     @Says(part = "Promise 34", quote = "Restores what was saved last")
     static void everyChangeIsLostByRestore() {
         for (CallOf change : CHANGES) {
-            LineBalancer x = rich();
+            LineBalancer x = ofFourTasks();
             x.save();
             String saved = answers(x);
             change.answer(x);

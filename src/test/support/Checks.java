@@ -160,6 +160,22 @@ class Checks {
         return x;
     }
 
+    /** Four tasks in two stations, with precedence and a pair; more than 8 changes have led there. */
+    static LineBalancer ofFourTasks() {
+        LineBalancer x = new LineBalancer();
+        x.addTask(30, 20, 0, 1);
+        x.addTask(25, 30, 5, 2);
+        x.addTask(20, 10, 60, 0);
+        x.addTask(40, 0, 0, 3);
+        x.setModels(2);
+        x.setDemand(2, 2);
+        x.before(0, 1);
+        x.before(1, 2);
+        x.pair(0, 3, true);
+        x.setCopies(4, 2);
+        return put(x, 1, 1, 4);
+    }
+
     /** Puts the task 0 into the first of the stations, the task 1 into the second one, and so on. */
     static LineBalancer put(LineBalancer x, int... stations) {
         for (int task = 0; task < stations.length; task++) {
