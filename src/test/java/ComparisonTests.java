@@ -12,7 +12,7 @@ import java.util.regex.Pattern;
  * of the document: the answers, and the exact classes of the exceptions, must be the same.
  */
 public final class ComparisonTests {
-    private static final int RUNS = 1000;
+    private static final int RUNS = 600;
     private static final int[] EXTREMES = {Integer.MIN_VALUE, Integer.MAX_VALUE, -1000, 1000, 256, -2};
 
     private static int wrong;
